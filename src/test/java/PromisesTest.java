@@ -792,6 +792,7 @@ public final class PromisesTest {
         check.answers(0, () -> combined(0, 4, 0, 1, -1));
         check.answers(0, () -> combined(0, 4, 3, 1, 2));
         check.answers(1, () -> combined(0, 5, 0, 1, 1L << 40));
+        check.answers(1, () -> combined(0, 5, 0, 0, 1L << 40));
         check.answers(-128, () -> combined(1, 1, 0, 127, 1));
         check.answers(-32768, () -> combined(2, 1, 0, 32767, 1));
         check.answers(65535, () -> combined(3, 1, 1, 0, 1));
