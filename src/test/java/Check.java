@@ -1,3 +1,5 @@
+import java.util.Set;
+
 /** Counts answers that are not as due, and tells where they were asked for. */
 final class Check {
     interface Answer {
@@ -16,17 +18,23 @@ final class Check {
     static final Class<?> NEGATIVE = NegativeArraySizeException.class;
     static final Class<?> DIVISION = ArithmeticException.class;
 
+    // A wrong answer is told with the line of the test, not with that of what helped to ask.
+    private static final Set<String> HELPERS = Set.of("Check.java", "Sentences.java", "Boundaries.java");
+
     private int asked = 0;
     private int wrong = 0;
 
-    void answers(long due, Answer call) {
-        String got;
+    /** The answer, or the name of what is thrown instead. */
+    static String outcome(Answer call) {
         try {
-            got = Long.toString(call.get());
+            return Long.toString(call.get());
         } catch (RuntimeException e) {
-            got = e.getClass().getName();
+            return e.getClass().getName();
         }
-        compare(Long.toString(due), got);
+    }
+
+    void answers(long due, Answer call) {
+        compare(Long.toString(due), outcome(call));
     }
 
     void says(boolean due, java.util.function.BooleanSupplier call) {
@@ -43,8 +51,27 @@ final class Check {
         compare(due.getName(), got);
     }
 
+    /** Two long texts, of which only the first line that differs is told. */
+    void sameLines(String due, String got) {
+        String[] dueLines = due.split("\n");
+        String[] gotLines = got.split("\n");
+        int line = 0;
+        while (line < dueLines.length - 1 && line < gotLines.length - 1 && dueLines[line].equals(gotLines[line])) {
+            line++;
+        }
+        compare(dueLines[line], gotLines[line]);
+    }
+
     void holds(String what, boolean holding) {
         compare(what, holding ? what : "not so");
+    }
+
+    int asked() {
+        return asked;
+    }
+
+    int wrong() {
+        return wrong;
     }
 
     /** To be the last call of a test: its exit code tells whether all was as due. */
@@ -65,7 +92,7 @@ final class Check {
 
     private static String place() {
         for (StackTraceElement frame : new Throwable().getStackTrace()) {
-            if (!frame.getClassName().startsWith("Check")) {
+            if (!HELPERS.contains(frame.getFileName())) {
                 return frame.getFileName() + ":" + frame.getLineNumber();
             }
         }

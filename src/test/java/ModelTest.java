@@ -42,9 +42,9 @@ public final class ModelTest {
             int which = random.nextInt(FACE);
             int[] a = arguments(which);
             long value = anyLong();
-            String due = outcome(() -> onModel(which, a, value));
-            String got = outcome(() -> onHall(which, a, value));
-            seen[which][due.startsWith("throws") ? 1 : 0]++;
+            String due = Check.outcome(() -> onModel(which, a, value));
+            String got = Check.outcome(() -> onHall(which, a, value));
+            seen[which][due.startsWith("java.") ? 1 : 0]++;
             if (!due.equals(got)) {
                 System.out.println("run " + run + ", call " + number + ", method " + which + " with "
                     + java.util.Arrays.toString(a) + ", " + value + ": due is " + due + ", got " + got);
@@ -52,14 +52,6 @@ public final class ModelTest {
             }
         }
         return 0;
-    }
-
-    private static String outcome(Check.Answer call) {
-        try {
-            return Long.toString(call.get());
-        } catch (RuntimeException e) {
-            return "throws." + e.getClass().getName();
-        }
     }
 
     private int[] arguments(int which) {
