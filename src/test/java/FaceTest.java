@@ -23,6 +23,7 @@ public final class FaceTest {
 
     public static void main(String[] args) throws IOException {
         sameFaceAsDocument();
+        sameWordsAsDocument();
         nothingElseIsVisible();
         nestedClassesStayInside();
         onlyListedThrows();
@@ -50,6 +51,18 @@ public final class FaceTest {
             TypedHall.class.getDeclaredConstructors().length == 1
                 && TypedHall.class.getConstructors().length == 1
                 && TypedHall.class.getConstructors()[0].getParameterCount() == 0);
+    }
+
+    /** The names of parameters, too, and how the exceptions are written. */
+    private static void sameWordsAsDocument() throws IOException {
+        String source = code().replaceAll("\\s+", " ");
+        Matcher line = Pattern.compile("(?m)^(?:    )?(public .*?)( \\{|;)$").matcher(Files.readString(DOCUMENT));
+        int lines = 0;
+        while (line.find()) {
+            lines++;
+            check.holds("in the source: " + line.group(1), source.contains(" " + line.group(1) + " {"));
+        }
+        check.holds("the class, a constructor and 20 methods in the document", lines == 22);
     }
 
     private static String signature(Method method) {

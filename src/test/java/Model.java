@@ -245,6 +245,16 @@ final class Model {
         return n;
     }
 
+    /** For tests that look for a register of use: -1 for none. */
+    int sortIn(int register) {
+        return held[register] == null ? -1 : sortOf(held[register]);
+    }
+
+    /** For tests that look for an element: where a vector's or window's ground begins. */
+    int firstIndexIn(int register) {
+        return -placeOf(held[register], 0);
+    }
+
     private Node node(int register) {
         range(register, 0, 7);
         supported(held[register] == null || held[register] instanceof Node);
